@@ -1100,6 +1100,10 @@ public final class PromisesTest {
         fails("-big(big(1)/2)-big(big(1)/2)", 5);
         fails("big(big(1)/2)/0.5", 5);
         givesReal("1/big(1)/big(1)", 0x1p-1024);
+        tell("Aa0", "big(big(1)/2)");
+        givesReal("Aa0+(Aa0-Aa0/4503599627370496)", Double.MAX_VALUE);
+        givesReal("-Aa0-(Aa0-Aa0/4503599627370496)", -Double.MAX_VALUE);
+        fails("Aa0+(Aa0-Aa0/4503599627370496/2)", 5);
     }
 
     private static void remainders() {
@@ -1129,6 +1133,13 @@ public final class PromisesTest {
         tell("Ac0", "Ab0*Ab0");
         givesReal("Ac0", small * small);
         givesReal("Aa0%Ac0", great % (small * small));
+        double y = 99999999999999.0;
+        tell("Ad0", "99999999999999.0*99999999999999");
+        givesReal("Aa0%Ad0", great % (y * y));
+        givesReal("Aa0%(Ad0*3)", great % (y * y * 3));
+        givesReal("Aa0%(Ad0*Ad0*-5)", great % (y * y * (y * y) * -5));
+        givesReal("Aa0%Aa0", 0.0);
+        givesReal("Aa0*3%Aa0", great * 3 % great);
     }
 
     private static void comparisons() {
@@ -1277,6 +1288,16 @@ public final class PromisesTest {
         tell("Bc0", "Bb0");
         fails("area(Ca0:Cb0,Bb0:Bc0)", 5);
         givesReal("area(Ca0:Cb0,Ba0:Bb0)", 0.0);
+        // Where x is one of R, nothing is taken from its neighbour, however far that is.
+        book.whole(at("Cc0"), 2);
+        givesReal("line(0,Ca0:Cc0,Ba0:Bc0)", -0x1p1023);
+        givesReal("line(1,Ca0:Cc0,Ba0:Bc0)", 0x1p1023);
+        fails("line(0.5,Ca0:Cc0,Ba0:Bc0)", 5);
+        for (int i = 0; i < 64; i++) {
+            book.whole(i, i);
+        }
+        givesReal("line(62.5,Aa0:Ah7,Aa0:Ah7)", 62.5);
+        givesReal("area(Aa0:Ah7,Aa0:Ah7)", 63.0 * 63.0 / 2.0);
     }
 
     private static void roots() {
