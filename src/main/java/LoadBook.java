@@ -1651,7 +1651,7 @@ public final class LoadBook {
         private int cause;
         private boolean hangs;
         private final Expression[] callers = new Expression[MOST_CALLS];
-        // Of the CALLS: where the caller goes on, its ARGUMENTS, the call's number in a root, whether f of low is below 0.
+        // Of the CALLS: where the caller goes on, its ARGUMENTS, the number in a root, and 1 if f of low is below 0.
         private final int[][] frames = new int[4][MOST_CALLS];
         private int calls;
         // Of the tries: where y begins, how many VALUES and CALLS there were.

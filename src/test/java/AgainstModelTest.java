@@ -1,6 +1,6 @@
 import java.util.Random;
 
-/** Random runs of calls, the same ones each time, on a LoadBook and on the model of the document: all answers are alike. */
+/** Random runs of calls, the same ones each time, on a LoadBook and on the model: all answers must be alike. */
 public final class AgainstModelTest {
     private static final String[] FUNCTIONS = {
         "f(x)=x*x-2", "f(x)=if(x<1,0,f(x-1)+1)", "f(x)=g(x)+g(x)", "f(x)=x-0.5", "f(x)=root(g,x,9)", "f(x)=1/x",
@@ -361,8 +361,9 @@ public final class AgainstModelTest {
         for (int n = random.nextInt(12) == 0 ? 1 + random.nextInt(2) : 0; n > 0; n--) {
             int i = random.nextInt(s.length() + 1);
             int k = Math.min(s.length(), i + random.nextInt(3));
-            s = s.substring(0, i) + pick("", "", " ", ".", "(", ")", "-", "A", "Aa", "Aa0", "if", "f(", ",", ":", "<", "=",
-                "1.", "1.5.", "abcdefghi", "1234567890123456789", "12345678.12345678", "&", "\u00e4", "sum", "x") + s.substring(k);
+            String odd = pick("", "", " ", ".", "(", ")", "-", "A", "Aa", "Aa0", "if", "f(", ",", ":", "<", "=", "1.", "1.5.",
+                "abcdefghi", "1234567890123456789", "12345678.12345678", "&", "\u00e4", "sum", "x");
+            s = s.substring(0, i) + odd + s.substring(k);
         }
         return s;
     }
