@@ -407,6 +407,15 @@ public final class LoadBook {
         return sheet >= 0 && sheet < SHEETS;
     }
 
+    private static int findName(long[] names, int size, long name) {
+        for (int i = 0; i < size && i < names.length; i++) {
+            if (names[i] == name) {
+                return i;
+            }
+        }
+        return NONE;
+    }
+
     /** A row of bytes: THE TEXT, OUT, or a FORMULA as it is PRINTED. */
     private static final class Text {
         private final byte[] bytes;
@@ -951,7 +960,7 @@ public final class LoadBook {
         }
 
         private void readArgument() {
-            if (numberOfArgument(tokens.content) != NONE) {
+            if (findName(arguments, argumentCount, tokens.content) != NONE) {
                 refuseLate(HEAD_FAULT, tokens.place);
             }
             if (argumentCount < MOST_ARGUMENTS) {
@@ -959,15 +968,6 @@ public final class LoadBook {
                 argumentCount++;
             }
             pass(NAME, tokens.place);
-        }
-
-        private int numberOfArgument(long name) {
-            for (int i = 0; i < argumentCount; i++) {
-                if (arguments[i] == name) {
-                    return i;
-                }
-            }
-            return NONE;
         }
 
         /** Level 0 is an E, 1 a SUM, 2 a PRODUCT, 3 an ATOM; OPEN ones keep the depth low. */
@@ -1077,8 +1077,10 @@ public final class LoadBook {
                 leaveBracket(tokens.place);
                 return;
             }
-            int number = known == null ? numberOfArgument(name) : known.find(name);
-            if (number == NONE || (known != null && number >= knownCount)) {
+            int number = known == null
+                ? findName(arguments, argumentCount, name)
+                : findName(known.names, knownCount, name);
+            if (number == NONE) {
                 refuseLate(NAME_FAULT, place);
             }
             made.emit(known == null ? ARGUMENT : CONSTANT, number, 0);
@@ -1098,7 +1100,7 @@ public final class LoadBook {
         /** A FUNCTION that is being told has no CONSTANTS known to it, and counts as told. */
         private int lookUpFunction(long name, int given, int place) {
             boolean own = known == null && name == ownName;
-            int number = own ? ownNumber : functions.find(name);
+            int number = own ? ownNumber : findName(functions.names, functions.size, name);
             int wanted = own ? argumentCount : functions.argumentsOf(number);
             if (number == NONE || wanted != given) {
                 refuseLate(NAME_FAULT, place);
@@ -1219,17 +1221,8 @@ public final class LoadBook {
         private int size;
         private int told;
 
-        int find(long name) {
-            for (int i = 0; i < size; i++) {
-                if (names[i] == name) {
-                    return i;
-                }
-            }
-            return NONE;
-        }
-
         int numberFor(long name) {
-            int number = find(name);
+            int number = findName(names, size, name);
             return number == NONE ? size : number;
         }
 
@@ -1282,17 +1275,8 @@ public final class LoadBook {
         private int spoiledBy;
         private int times;
 
-        int find(long name) {
-            for (int i = 0; i < size; i++) {
-                if (names[i] == name) {
-                    return i;
-                }
-            }
-            return NONE;
-        }
-
         int numberFor(long name) {
-            int number = find(name);
+            int number = findName(names, size, name);
             return number == NONE ? size : number;
         }
 

@@ -361,8 +361,8 @@ public final class AgainstModelTest {
         for (int n = random.nextInt(12) == 0 ? 1 + random.nextInt(2) : 0; n > 0; n--) {
             int i = random.nextInt(s.length() + 1);
             int k = Math.min(s.length(), i + random.nextInt(3));
-            String odd = pick("", "", " ", ".", "(", ")", "-", "A", "Aa", "Aa0", "if", "f(", ",", ":", "<", "=", "1.", "1.5.",
-                "abcdefghi", "1234567890123456789", "12345678.12345678", "&", "\u00e4", "sum", "x");
+            String odd = pick("", "", " ", ".", "(", ")", "-", "A", "Aa", "Aa0", "if", "f(", ",", ":", "<", "=",
+                "1.", "1.5.", "abcdefghi", "1234567890123456789", "12345678.12345678", "&", "\u00e4", "sum", "x");
             s = s.substring(0, i) + odd + s.substring(k);
         }
         return s;

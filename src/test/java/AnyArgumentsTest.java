@@ -3,8 +3,8 @@ import java.util.Random;
 /** No call throws or fails to end, for any arguments in any state. */
 public final class AnyArgumentsTest {
     private static final int[] EDGES = {
-        Integer.MIN_VALUE, -257, -256, -65, -64, -2, -1, 0, 1, 2, 3, 4, 5, 7, 8, 9, 10, 11, 14, 15, 16, 23, 24, 47, 48, 63,
-        64, 127, 128, 191, 192, 239, 240, 241, 255, 256, 257, 319, 320, Integer.MAX_VALUE
+        Integer.MIN_VALUE, -257, -256, -65, -64, -2, -1, 0, 1, 2, 3, 4, 5, 7, 8, 9, 10, 11, 14, 15, 16, 23, 24, 47, 48,
+        63, 64, 127, 128, 191, 192, 239, 240, 241, 255, 256, 257, 319, 320, Integer.MAX_VALUE
     };
     private static final String BYTES = "0123456789.abcdefghfgxABCD+-*/%(),:<=> ifsumtry";
 
