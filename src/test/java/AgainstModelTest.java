@@ -1,7 +1,23 @@
+import java.util.ArrayList;
+import java.util.List;
 import java.util.Random;
+import java.util.function.ToLongFunction;
 
-/** Random runs of calls, the same ones each time, on a LoadBook and on the model: all answers must be alike. */
+/**
+ * Random runs of calls, the same ones each time, on a LoadBook and on the model: all answers must be alike.
+ *
+ * <p>Nothing is promised behind an object's 512th call, so a run has fewer, and what there is to look at when it ends is
+ * looked at in pieces, for each of which the run is made once more on a new object.
+ */
 public final class AgainstModelTest {
+    private static final int MOST_CALLS = 512;
+    private static final int CALLS_OF_A_RUN = 300;
+    private static final int LONGEST_TEXT = 250;
+
+    /** A call that was made, with what the model answered. */
+    private record Call(String name, ToLongFunction<LoadBook> call, long want) {
+    }
+
     private static final String[] FUNCTIONS = {
         "f(x)=x*x-2", "f(x)=if(x<1,0,f(x-1)+1)", "f(x)=g(x)+g(x)", "f(x)=x-0.5", "f(x)=root(g,x,9)", "f(x)=1/x",
         "g(x)=g(x)+g(x)", "g(x)=x+1", "g(y)=try(h(y,y),f(y))", "g(x)=x*x*x-x", "g(x)=try(f(x),7)", "g(x)=try(g(x),1)",
@@ -46,7 +62,8 @@ public final class AgainstModelTest {
     private final int seed;
     private final LoadBook book = new LoadBook();
     private final LoadBookModel model = new LoadBookModel();
-    private final StringBuilder story = new StringBuilder();
+    private final List<Call> made = new ArrayList<>();
+    private final List<Call> looks = new ArrayList<>();
     private final int cellsUsed;
     private final int sheetsUsed;
     private int wrong;
@@ -59,7 +76,7 @@ public final class AgainstModelTest {
     }
 
     public static void main(String[] args) {
-        int runs = args.length > 0 ? Integer.parseInt(args[0]) : 1500;
+        int runs = args.length > 0 ? Integer.parseInt(args[0]) : 2500;
         int from = args.length > 1 ? Integer.parseInt(args[1]) : 0;
         int wrongRuns = 0;
         for (int seed = from; seed < from + runs && wrongRuns < 3; seed++) {
@@ -75,15 +92,19 @@ public final class AgainstModelTest {
         }
     }
 
+    private boolean isLong() {
+        return made.size() >= CALLS_OF_A_RUN || wrong > 0;
+    }
+
     private void tellFirst() {
         for (String[] same : FIRST_FUNCTIONS) {
             type(same[random.nextInt(same.length)]);
-            due("function()", book.function(), model.function());
+            make("function()", LoadBook::function, model.function());
         }
         for (int sheet = 0; sheet < sheetsUsed; sheet++) {
             for (String s : FIRST_CONSTANTS) {
                 type(s);
-                due("constant(" + sheet + ")", book.constant(sheet), model.constant(sheet));
+                constant(sheet);
             }
         }
         for (int n = 0; n < cellsUsed; n++) {
@@ -102,9 +123,7 @@ public final class AgainstModelTest {
         long x = -random.nextInt(9);
         for (int column = 0; column < 8; column++) {
             for (int cell = column; cell < 256; cell += 64) {
-                int e = random.nextInt(3);
-                long n = cell < 64 ? x : random.nextInt(40) - 15;
-                due("number(" + cell + ", " + n + ", " + e + ")", book.number(cell, n, e), model.number(cell, n, e));
+                number(cell, cell < 64 ? x : random.nextInt(40) - 15, random.nextInt(3));
             }
             x = random.nextInt(12) == 0 ? Long.MAX_VALUE : 100 * Math.max(x, 0) + random.nextInt(9);
         }
@@ -114,8 +133,8 @@ public final class AgainstModelTest {
         if (random.nextInt(5) > 0) {
             tellFirst();
         }
-        int calls = 20 + random.nextInt(150);
-        for (int n = 0; n < calls && wrong == 0; n++) {
+        int times = 5 + random.nextInt(75);
+        for (int n = 0; n < times && !isLong(); n++) {
             switch (random.nextInt(12)) {
                 case 0:
                     tellWhole();
@@ -125,7 +144,7 @@ public final class AgainstModelTest {
                     break;
                 case 2:
                     int cell = cell();
-                    due("empty(" + cell + ")", book.empty(cell), model.empty(cell));
+                    make("empty(" + cell + ")", b -> b.empty(cell), model.empty(cell));
                     break;
                 case 3:
                     tellFunction();
@@ -135,8 +154,7 @@ public final class AgainstModelTest {
                     break;
                 case 5:
                 case 6:
-                    due("recalculate()", book.recalculate(), model.recalculate());
-                    lookAtAll();
+                    make("recalculate()", LoadBook::recalculate, model.recalculate());
                     break;
                 case 7:
                     printAndTake();
@@ -146,23 +164,49 @@ public final class AgainstModelTest {
                     break;
             }
         }
-        due("recalculate()", book.recalculate(), model.recalculate());
+        if (random.nextInt(4) > 0) {
+            make("recalculate()", LoadBook::recalculate, model.recalculate());
+        }
         lookAtAll();
+        makeLooks();
     }
 
-    private void due(String call, long got, long want) {
-        story.append(call).append(" -> ").append(got).append('\n');
+    private void make(String name, ToLongFunction<LoadBook> call, long want) {
+        made.add(new Call(name, call, want));
+        long got = call.applyAsLong(book);
         if (got != want) {
-            wrong++;
-            if (wrong == 1) {
-                System.out.println("seed " + seed + "\n" + story + call + " answered " + got + ", the model " + want);
-            }
+            complain(made, name, got, want);
         }
     }
 
-    private void check(String call, long got, long want) {
-        if (got != want) {
-            due(call, got, want);
+    private void complain(List<Call> story, String name, long got, long want) {
+        wrong++;
+        if (wrong == 1) {
+            System.out.println("seed " + seed);
+            for (Call call : story) {
+                System.out.println(call.name + " -> " + call.want);
+            }
+            System.out.println(name + " answered " + got + ", the model " + want);
+        }
+    }
+
+    private void look(String name, ToLongFunction<LoadBook> call, long want) {
+        looks.add(new Call(name, call, want));
+    }
+
+    private void makeLooks() {
+        int atOnce = MOST_CALLS - made.size();
+        for (int from = 0; from < looks.size() && wrong == 0; from += atOnce) {
+            LoadBook again = new LoadBook();
+            for (Call call : made) {
+                call.call.applyAsLong(again);
+            }
+            for (Call call : looks.subList(from, Math.min(looks.size(), from + atOnce))) {
+                long got = call.call.applyAsLong(again);
+                if (got != call.want) {
+                    complain(made, call.name, got, call.want);
+                }
+            }
         }
     }
 
@@ -174,24 +218,24 @@ public final class AgainstModelTest {
     }
 
     private void type(String s) {
-        story.append("text ").append(s).append('\n');
+        boolean gaps = random.nextInt(4) == 0;
         for (int i = 0; i < s.length(); ) {
             long bytes = 0;
             for (int k = 0; k < 8; k++) {
-                boolean gap = random.nextInt(8) == 0;
-                if (i < s.length() && !gap) {
+                if (i < s.length() && (!gaps || random.nextInt(8) > 0)) {
                     bytes |= (long) (s.charAt(i) & 255) << (8 * k);
                     i++;
                 }
             }
-            check("type(" + bytes + ")", book.type(bytes), model.type(bytes));
+            long typed = bytes;
+            make("type(" + typed + ") of " + s, b -> b.type(typed), model.type(typed));
         }
     }
 
     private void tellWhole() {
         int cell = cell();
         long v = random.nextInt(3) == 0 ? WHOLES[random.nextInt(WHOLES.length)] : random.nextInt(20) - 6;
-        due("whole(" + cell + ", " + v + ")", book.whole(cell, v), model.whole(cell, v));
+        make("whole(" + cell + ", " + v + ")", b -> b.whole(cell, v), model.whole(cell, v));
     }
 
     private void tellNumber() {
@@ -200,8 +244,19 @@ public final class AgainstModelTest {
         if (random.nextInt(8) == 0) {
             n = random.nextLong();
         }
-        int e = random.nextInt(30) == 0 ? random.nextInt(20) - 3 : random.nextInt(16);
-        due("number(" + cell + ", " + n + ", " + e + ")", book.number(cell, n, e), model.number(cell, n, e));
+        number(cell, n, random.nextInt(30) == 0 ? random.nextInt(20) - 3 : random.nextInt(16));
+    }
+
+    private void number(int cell, long n, int e) {
+        make("number(" + cell + ", " + n + ", " + e + ")", b -> b.number(cell, n, e), model.number(cell, n, e));
+    }
+
+    private void constant(int sheet) {
+        make("constant(" + sheet + ")", b -> b.constant(sheet), model.constant(sheet));
+    }
+
+    private void formula(int cell) {
+        make("formula(" + cell + ")", b -> b.formula(cell), model.formula(cell));
     }
 
     private void tellFunction() {
@@ -211,8 +266,8 @@ public final class AgainstModelTest {
             : random.nextInt(2) > 0 ? FUNCTIONS[random.nextInt(FUNCTIONS.length)]
             : pick("f", "g", "h", "k", "m", "w") + "(" + pick("x", "x,y", "x,y,z", "x,x") + ")=" + e(2, 'F');
         type(disturbed(s));
-        due("function()", book.function(), model.function());
-        check("fault()", book.fault(), model.fault());
+        make("function()", LoadBook::function, model.function());
+        make("fault()", LoadBook::fault, model.fault());
     }
 
     private void tellConstant() {
@@ -222,10 +277,10 @@ public final class AgainstModelTest {
             : random.nextInt(2) > 0 ? CONSTANTS[random.nextInt(CONSTANTS.length)]
             : pick("a", "b", "c", "d", "e", "t") + "=" + e(2, 'C');
         type(disturbed(s));
-        due("constant(" + sheet + ")", book.constant(sheet), model.constant(sheet));
-        check("fault()", book.fault(), model.fault());
+        constant(sheet);
+        make("fault()", LoadBook::fault, model.fault());
         if (random.nextInt(4) == 0) {
-            due("wipe()", book.wipe(), model.wipe());
+            make("wipe()", LoadBook::wipe, model.wipe());
         }
     }
 
@@ -235,26 +290,25 @@ public final class AgainstModelTest {
             ? FORMULAS[random.nextInt(FORMULAS.length)]
             : e(random.nextInt(6) == 0 ? 4 : 1 + random.nextInt(2), 'C');
         type(disturbed(s));
-        due("formula(" + cell + ")", book.formula(cell), model.formula(cell));
-        check("fault()", book.fault(), model.fault());
-        check("count(5)", book.count(5), model.count(5));
+        formula(cell);
+        make("fault()", LoadBook::fault, model.fault());
         if (random.nextInt(4) == 0) {
-            due("wipe()", book.wipe(), model.wipe());
+            make("wipe()", LoadBook::wipe, model.wipe());
         }
     }
 
     private void printAndTake() {
         int cell = cell();
-        due("print(" + cell + ")", book.print(cell), model.print(cell));
-        for (int i = -1; i < 330; i++) {
-            check("sign(" + i + ")", book.sign(i), model.sign(i));
+        make("print(" + cell + ")", b -> b.print(cell), model.print(cell));
+        for (int n = 0; n < 4; n++) {
+            int i = random.nextInt(24);
+            make("sign(" + i + ")", b -> b.sign(i), model.sign(i));
         }
-        due("take()", book.take(), model.take());
+        make("take()", LoadBook::take, model.take());
         if (random.nextBoolean()) {
-            int other = cell();
-            due("formula(" + other + ")", book.formula(other), model.formula(other));
+            formula(cell());
         } else {
-            due("wipe()", book.wipe(), model.wipe());
+            make("wipe()", LoadBook::wipe, model.wipe());
         }
     }
 
@@ -365,51 +419,75 @@ public final class AgainstModelTest {
                 "1.", "1.5.", "abcdefghi", "1234567890123456789", "12345678.12345678", "&", "\u00e4", "sum", "x");
             s = s.substring(0, i) + odd + s.substring(k);
         }
-        return s;
+        return s.substring(0, Math.min(s.length(), LONGEST_TEXT));
     }
 
+    /** What is asked of all cells, of those that are used, and of some that are picked. */
     private void lookAtAll() {
-        for (int c = 0; c < 256; c++) {
-            check("state(" + c + ")", book.state(c), model.state(c));
-            check("value(" + c + ")", book.value(c), model.value(c));
-            for (int what = 0; what < 3; what++) {
-                check("failure(" + c + ", " + what + ")", book.failure(c, what), model.failure(c, what));
-            }
-            if (model.state(c) != 0) {
-                for (int i = -1; i < 26; i++) {
-                    check("trace(" + c + ", " + i + ")", book.trace(c, i), model.trace(c, i));
-                }
-            }
+        for (int what = -1; what < 16; what++) {
+            int w = what;
+            look("count(" + what + ")", b -> b.count(w), model.count(what));
         }
         for (int i = -1; i < 49; i++) {
-            check("done(" + i + ")", book.done(i), model.done(i));
-            for (int k = -1; k < 49 && i < 10; k++) {
-                check("cycle(" + i + ", " + k + ")", book.cycle(i, k), model.cycle(i, k));
+            int k = i;
+            look("done(" + i + ")", b -> b.done(k), model.done(i));
+        }
+        for (int i = -1; i < 330; i++) {
+            int k = i;
+            if (i < 20 || model.sign(i) != -1) {
+                look("sign(" + i + ")", b -> b.sign(k), model.sign(i));
             }
         }
-        for (int n = 0; n < 4; n++) {
-            int c = cell();
-            for (int i = -1; i == -1 || model.needs(c, i - 1) != -1; i++) {
-                check("needs(" + c + ", " + i + ")", book.needs(c, i), model.needs(c, i));
-            }
-            for (int i = -1; i < 8; i++) {
-                check("neededBy(" + c + ", " + i + ")", book.neededBy(c, i), model.neededBy(c, i));
-            }
-            for (int e = -1; e < 20; e++) {
-                check("old(" + e + ", " + c + ", 0)", book.old(e, c, 0), model.old(e, c, 0));
-                check("old(" + e + ", " + c + ", 1)", book.old(e, c, 1), model.old(e, c, 1));
+        for (int i = -1; i <= model.count(4); i++) {
+            for (int k = -1; k < 8; k++) {
+                int cycle = i;
+                int number = k;
+                look("cycle(" + i + ", " + k + ")", b -> b.cycle(cycle, number), model.cycle(i, k));
             }
         }
-        for (int sheet = -1; sheet < 5; sheet++) {
-            for (int i = -1; i < 6; i++) {
-                for (int what = -1; what < 4; what++) {
-                    check("named(" + sheet + ", " + i + ", " + what + ")",
-                        book.named(sheet, i, what), model.named(sheet, i, what));
-                }
+        for (int c = 0; c < 256; c++) {
+            if (model.state(c) != 0 || random.nextInt(16) == 0) {
+                lookAtCell(c);
             }
         }
-        for (int what = -1; what < 16; what++) {
-            check("count(" + what + ")", book.count(what), model.count(what));
+        for (int n = 0; n < 3; n++) {
+            lookClosely(cell());
+        }
+        for (int n = 0; n < 72; n++) {
+            int sheet = n / 18;
+            int i = n / 3 % 6;
+            int what = n % 3;
+            look("named(" + sheet + ", " + i + ", " + what + ")",
+                b -> b.named(sheet, i, what), model.named(sheet, i, what));
+        }
+    }
+
+    private void lookAtCell(int c) {
+        look("state(" + c + ")", b -> b.state(c), model.state(c));
+        look("value(" + c + ")", b -> b.value(c), model.value(c));
+        for (int what = 0; what < 3 && model.state(c) > 2; what++) {
+            int w = what;
+            look("failure(" + c + ", " + what + ")", b -> b.failure(c, w), model.failure(c, what));
+        }
+        for (int i = 0; i < 26 && (i == 0 || model.trace(c, i - 1) != -1); i++) {
+            int k = i;
+            look("trace(" + c + ", " + i + ")", b -> b.trace(c, k), model.trace(c, i));
+        }
+    }
+
+    private void lookClosely(int c) {
+        for (int i = -1; i < 1 || model.needs(c, i - 1) != -1; i++) {
+            int k = i;
+            look("needs(" + c + ", " + i + ")", b -> b.needs(c, k), model.needs(c, i));
+        }
+        for (int i = -1; i < 8; i++) {
+            int k = i;
+            look("neededBy(" + c + ", " + i + ")", b -> b.neededBy(c, k), model.neededBy(c, i));
+        }
+        for (int e = -1; e < 20; e++) {
+            int edition = e;
+            look("old(" + e + ", " + c + ", 0)", b -> b.old(edition, c, 0), model.old(e, c, 0));
+            look("old(" + e + ", " + c + ", 1)", b -> b.old(edition, c, 1), model.old(e, c, 1));
         }
     }
 }

@@ -48,8 +48,8 @@ public final class AnyArgumentsTest {
     }
 
     private void type(String s) {
-        for (int i = 0; i < s.length(); i++) {
-            book.type(s.charAt(i));
+        for (int i = 0; i < s.length(); i += 8) {
+            book.type(Bench.bytes(s.substring(i, Math.min(s.length(), i + 8))));
         }
     }
 
