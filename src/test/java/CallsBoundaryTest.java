@@ -114,6 +114,10 @@ public final class CallsBoundaryTest extends Bench {
             due("one more", book().type(1L << 56), -2);
             due("count(5)", book().count(5), 240);
         }
+        for (int bit = 0; bit < 64; bit++) {
+            due("a byte with bit " + bit, book().type(1L << bit), -2);
+            due("count(5)", book().count(5), 240);
+        }
         due("nothing of what was refused is there", book().formula(0), 1);
         printedIs(0, "11111111");
     }
@@ -360,11 +364,28 @@ public final class CallsBoundaryTest extends Bench {
         due("when it is worked out", book().print(0), 5);
         tell("Aa0", "1+2+");
         due("behind a refused one", book().print(0), 5);
-        // The longest there is: 20 WHOLES of 11 digits, and 19 signs with two brackets each.
-        tell("Aa0", "12345678901" + times(19, "+12345678901"));
-        due("print of the longest", book().print(0), 239 + 38);
-        due("sign(276)", book().sign(276), ')');
-        due("sign(275)", book().sign(275), '1');
+        again();
+        printsTheLongest();
+    }
+
+    /** 240 bytes and 40 PARTS, 28 of which get brackets: 12 WHOLES, 11 signs between, 17 - of ATOMS. */
+    private static void printsTheLongest() {
+        String eighteen = "123456789012345678";
+        String seventeen = "12345678901234567";
+        String s = "--" + eighteen;
+        String want = "(-(-" + eighteen + "))";
+        for (int i = 1; i < 12; i++) {
+            String whole = i < 8 ? eighteen : seventeen;
+            String minus = i <= 4 ? "--" : "-";
+            s = s + "+" + minus + whole;
+            want = "(" + want + "+" + (i <= 4 ? "(-(-" + whole + "))" : "(-" + whole + ")") + ")";
+        }
+        due("bytes", s.length(), 240);
+        due("bytes to print", want.length(), 296);
+        due("PARTS", tell("Aa0", s), 40);
+        printedIs(0, want);
+        due("sign(296)", book().sign(296), -1);
+        due("take()", book().take(), -2);
     }
 
     private static void signsOfOut() {
@@ -685,6 +706,17 @@ public final class CallsBoundaryTest extends Bench {
         reads("Aa0", "Ad0");
         book().empty(0);
         reads("Aa0");
+        // What others had before is not theirs.
+        for (int i = 0; i < 6; i++) {
+            tell("Aa0", "try(Ab0,0)+try(Ac0,0)");
+            book().recalculate();
+            tell("Aa0", "Ad0");
+            reads("Aa0");
+            tell("Ae0", "Ad0");
+            reads("Ae0");
+            tell("Af0", "Ad0");
+            reads("Af0");
+        }
     }
 
     private static void namedCodes() {

@@ -1,8 +1,12 @@
+import java.util.LinkedHashSet;
+import java.util.Set;
+
 /** The boundary cases that section 3 of the Terms (RECALCULATING) names, a method for each sentence. */
 public final class RecalculatingBoundaryTest extends Bench {
     public static void main(String[] args) {
         needsInWhicheverPart();
         needsOfWholeSheets();
+        needsOfAreasThatOverlap();
         needsOneCycle();
         cyclesOfOne();
         cyclesThroughWhatIsNotRead();
@@ -10,9 +14,12 @@ public final class RecalculatingBoundaryTest extends Bench {
         cycleOfFortyEight();
         fortyEightCycles();
         reachedFunctions();
+        reachedThroughEight();
+        reachedNoMore();
         changedByFormula();
         changedByFunction();
         changedByNeeds();
+        changedThroughOthers();
         changedByEmpty();
         changedByConstants();
         changedConstantsByFunction();
@@ -83,6 +90,41 @@ public final class RecalculatingBoundaryTest extends Bench {
         needed("Aa0", "Dh7");
         tell("Aa0", "sum(Dg6:Dh7)");
         needed("Aa0", "Dg6", "Dh6", "Dg7", "Dh7");
+    }
+
+    private static void needsOfAreasThatOverlap() {
+        begin("NEEDS: in the order in which they first stand");
+        overlapping("Bb1:Bd3", "Bc2:Be4", "Bc3:Bc3", "Ba0:Bh7");
+        overlapping("Bd3:Be4", "Bb2:Bf5", "Ba0:Bh7", "Bd3:Be4");
+        overlapping("Bh7:Bh7", "Ba7:Bh7", "Bh0:Bh7", "Ba0:Ba7");
+        overlapping("Bb1:Bd3", "Cb1:Cd3", "Ac2:Ac2", "Db1:Dd3");
+        overlapping("Cb1:Cd3", "Bb1:Bd3", "Ac0:Ac7", "Ba2:Bh2");
+    }
+
+    private static void overlapping(String... areas) {
+        again();
+        Set<Integer> want = new LinkedHashSet<>();
+        StringBuilder s = new StringBuilder("1");
+        for (String area : areas) {
+            s.append("+sum(").append(area).append(')');
+            int first = at(area.substring(0, 3));
+            int last = at(area.substring(4));
+            for (int cell = first; cell <= last; cell++) {
+                if (cell % 8 >= first % 8 && cell % 8 <= last % 8) {
+                    want.add(cell);
+                }
+            }
+        }
+        tell("Aa0", s.toString());
+        int i = 0;
+        for (int cell : want) {
+            due("needs(0, " + i + ") of " + s, book().needs(0, i), cell);
+            i++;
+        }
+        due("needs(0, " + i + ") of " + s, book().needs(0, i), -1);
+        for (int cell = 0; cell < 256; cell++) {
+            due("neededBy(" + cell + ", 0) of " + s, book().neededBy(cell, 0), want.contains(cell) ? 0 : -1);
+        }
     }
 
     private static void needsOneCycle() {
@@ -246,6 +288,68 @@ public final class RecalculatingBoundaryTest extends Bench {
         doneCells("Ac0");
     }
 
+    private static void reachedThroughEight() {
+        begin("by one that calls a FUNCTION whose E reaches it: through all eight, either way");
+        for (int i = 0; i < 8; i++) {
+            tellFunction((char) ('a' + i) + "(x)=x");
+        }
+        for (int i = 0; i < 7; i++) {
+            tellFunction((char) ('a' + i) + "(x)=" + (char) ('b' + i) + "(x)");
+        }
+        for (int i = 0; i < 8; i++) {
+            tell("A" + (char) ('a' + i) + "0", (char) ('a' + i) + "(1)");
+        }
+        tellConstant(1, "k=a(1)");
+        tellConstant(2, "k=h(1)");
+        book().recalculate();
+        tellFunction("h(x)=x+1");
+        doneCells("Aa0", "Ab0", "Ac0", "Ad0", "Ae0", "Af0", "Ag0", "Ah0");
+        due("value(0)", book().value(0), 2);
+        constantIs(1, 0, 1, 2, 0);
+        tellFunction("d(x)=x");
+        doneCells("Aa0", "Ab0", "Ac0", "Ad0");
+        tellFunction("a(x)=x");
+        doneCells("Aa0");
+        for (int i = 1; i < 8; i++) {
+            tellFunction((char) ('a' + i) + "(x)=" + (char) ('a' + i - 1) + "(x)");
+        }
+        book().recalculate();
+        tellFunction("a(x)=x");
+        doneCells("Aa0", "Ab0", "Ac0", "Ad0", "Ae0", "Af0", "Ag0", "Ah0");
+        due("count(12)", book().count(12), 5);
+        due("count(13)", book().count(13), 4);
+    }
+
+    /** What was told before in the place of an E, or was refused, reaches nothing. */
+    private static void reachedNoMore() {
+        begin("A FUNCTION is REACHED by an E that calls it: not by one that is gone");
+        tellFunction("f(x)=x");
+        tellFunction("g(x)=x");
+        for (int i = 0; i < 6; i++) {
+            tell("Aa0", "f(1)");
+            tell("Aa0", "f(1)+zz");
+            tell("Aa0", "1");
+            tell("Ab0", "f(1)");
+            book().whole(1, 1);
+            tell("Ac0", "2");
+            tell("Ad0", "3");
+        }
+        tellConstant(1, "a=f(1)");
+        tellConstant(1, "a=1");
+        tell("Ba0", "1");
+        tell("Bb0", "g(1)");
+        book().recalculate();
+        tellFunction("f(x)=x");
+        doneCells();
+        tellFunction("g(x)=f(x)");
+        doneCells("Bb0");
+        tellFunction("g(x)=x");
+        doneCells("Bb0");
+        tellFunction("f(x)=x");
+        doneCells();
+        due("count(12)", book().count(12), 1);
+    }
+
     private static void changedByFormula() {
         begin("CHANGED are: cells with a FORMULA that was told");
         tell("Aa0", "1");
@@ -315,6 +419,32 @@ public final class RecalculatingBoundaryTest extends Bench {
         doneCells();
         tell("Ba0", "5)");
         doneCells();
+    }
+
+    private static void changedThroughOthers() {
+        begin("those that need a cell that .. is CHANGED, through the least cell and the greatest");
+        tellFunction("f(x)=x");
+        tell("Ca0", "f(1)");
+        tell("Ba0", "Ca0");
+        tell("Aa0", "Ba0");
+        tell("Ab0", "Aa0");
+        tell("Dh7", "Ab0");
+        tell("Ac0", "Dh7");
+        tell("Ad0", "Ac0");
+        book().recalculate();
+        tellFunction("f(x)=x+1");
+        doneCells("Ca0", "Ba0", "Aa0", "Ab0", "Dh7", "Ac0", "Ad0");
+        isWhole("Ad0", 2);
+        tellConstant(2, "a=1");
+        doneCells("Ca0", "Ba0", "Aa0", "Ab0", "Dh7", "Ac0", "Ad0");
+        tell("Ca0", "7");
+        doneCells("Ca0", "Ba0", "Aa0", "Ab0", "Dh7", "Ac0", "Ad0");
+        isWhole("Ad0", 7);
+        book().whole(128, 8);
+        doneCells("Ba0", "Aa0", "Ab0", "Dh7", "Ac0", "Ad0");
+        isWhole("Ad0", 8);
+        tell("Ab0", "9");
+        doneCells("Ab0", "Dh7", "Ac0", "Ad0");
     }
 
     private static void changedByEmpty() {

@@ -231,6 +231,9 @@ public final class RefusedCallsTest {
         formula(toldAgain, "Dd0", "q*2");
         add(toldAgain, "recalculate()", LoadBook::recalculate);
         add(toldAgain, "whole(1, 4)", b -> b.whole(1, 4));
+        function(toldAgain, "f(n)=if(n<1,0,f(n-1))");
+        // Just 1000 STEPS: those of refused texts are not among them.
+        formula(toldAgain, "Ac1", "f(19)+".repeat(6) + "f(3)+1+1+1+-1");
         add(toldAgain, "recalculate()", LoadBook::recalculate);
         return List.of(List.of(), recalculated, toldAgain);
     }

@@ -19,6 +19,7 @@ public final class TextsBoundaryTest extends Bench {
         fromTheLeft();
         minusOfAnAtom();
         shapesOfWords();
+        comparisonsInCalls();
         callsOfNames();
         wordsAreNoNames();
         constantsAndFunctions();
@@ -96,6 +97,14 @@ public final class TextsBoundaryTest extends Bench {
         text(times(236, " ") + "1 +");
         due("the end of 239", book().formula(0), -102);
         due("fault()", book().fault(), 239);
+        String ten = times(10, "(") + "1" + times(10, ")") + "+";
+        String nine = times(9, "(") + "1" + times(9, ")");
+        accepted(times(10, ten) + "-" + nine, 22);
+        accepted(times(10, ten) + nine, 21);
+        due("239 TOKENS of a byte each", (times(10, ten) + nine).length(), 239);
+        formulaFault(times(10, ten) + "-(" + nine, 3, 230);
+        formulaFault(times(10, ten) + nine + ")", 2, 239);
+        formulaFault(times(10, ten) + "(" + nine, 2, 240);
     }
 
     private static void whatTakesItEmptiesIt() {
@@ -396,6 +405,27 @@ public final class TextsBoundaryTest extends Bench {
         } else {
             formulaFault(ahead + "1", 2, ahead.length());
         }
+    }
+
+    /** What is in brackets or in a CALL is an E, so it may be two SUMS with a sign between, wherever it stands. */
+    private static void comparisonsInCalls() {
+        begin("( E ), or a CALL: .. E ..");
+        tellFunction("f(x)=x");
+        tellFunction("h(x,y,z)=x");
+        accepted("(1<2)", 3);
+        accepted("if(1<2,3<=4,5=6)", 10);
+        accepted("try(1<>2,3<4)", 7);
+        accepted("at(Aa0:Ab0,1<2)", 5);
+        accepted("line(1<2,Aa0:Ab0,Aa0:Ab0)", 6);
+        accepted("root(f,1<2,3<4)", 7);
+        accepted("cut(1<2)", 4);
+        accepted("real(1<2)", 4);
+        accepted("f(1<2)", 4);
+        accepted("h(1<2,3<4,5<6)", 10);
+        formulaFault("-1<2<3", 2, 4);
+        formulaFault("cut(1<2<3)", 2, 7);
+        due("in a CONSTANT", tellConstant(0, "a=1<2"), 0);
+        due("in a FUNCTION", tellFunction("f(x)=x<2"), 0);
     }
 
     private static void callsOfNames() {

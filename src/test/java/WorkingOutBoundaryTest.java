@@ -23,7 +23,11 @@ public final class WorkingOutBoundaryTest extends Bench {
         fromLeftToRight();
         whatFailsEndsThePartsAround();
         tries();
+        triesThatEnded();
+        triesInOneAnother();
+        nineteenTries();
         choices();
+        thirteenChoices();
         divisionOfLongs();
         leastLongByMinusOne();
         nearestDoubles();
@@ -52,6 +56,7 @@ public final class WorkingOutBoundaryTest extends Bench {
         endsOfLines();
         insideOfLines();
         linesBeyond();
+        tablesOfSheets();
         areasUnderCurves();
         areasBeyond();
         noRoot();
@@ -150,6 +155,10 @@ public final class WorkingOutBoundaryTest extends Bench {
         givesReal("Cb0/1", GREATEST);
         fails("Cb0/0.5", 5);
         givesReal("Cb0-Cb0", 0.0);
+        givesReal("-Cb0*1", -GREATEST);
+        givesReal("-Cb0-0.0", -GREATEST);
+        givesReal("-Ca0-(Ca0-Ca0/4503599627370496)", -GREATEST);
+        givesReal("sum(Cb0:Cb0)+0", GREATEST);
         book().number(0, GREATEST_LONG, 0);
         due("number() of the greatest LONG", book().value(0), Double.doubleToLongBits(0x1p63));
         book().number(0, LEAST_LONG, 0);
@@ -479,6 +488,91 @@ public final class WorkingOutBoundaryTest extends Bench {
         reads("Dh7");
     }
 
+    private static void triesThatEnded() {
+        begin("try ( x , y ): what FAILS behind it, it does not take");
+        tellFunction("f(x)=try(x,2)");
+        tellFunction("g(x)=try(1/x,2)");
+        fails("try(1,2)+1/0", 1);
+        fails("try(1,2)/0", 1);
+        fails("try(1/0,2)/0", 1);
+        fails("f(1)/0", 1);
+        fails("g(0)/0", 1);
+        fails("try(1,2)+Aa0", 3);
+        fails("try(1/0,try(1,2)/0)", 1);
+        gives("try(try(1,2)/0,3)", 3);
+        gives("try(f(1)/0,f(4))", 4);
+        gives("try(1/0,2)+try(3,4)*10", 32);
+        gives("try(try(1,2)+try(3/0,4)+5%0,6)", 6);
+        gives("if(try(1,0),try(2,3),4)", 2);
+    }
+
+    private static void triesInOneAnother() {
+        begin("try ( x , y ): ten in one another, and as many in each of 20 CALLS");
+        String nine = times(9, "try(");
+        tellFunction("v(x)=" + nine + "v(x)" + ",1)" + times(8, ",0)"));
+        tellFunction("w(x)=" + times(9, "try(1/0,") + "w(x)" + times(9, ")"));
+        gives(nine + "v(1)" + times(9, ",7)"), 1);
+        gives("v(1)", 1);
+        fails("w(1)", 4);
+        gives(times(10, "try(") + "1/0" + times(10, ",6)"), 6);
+        gives(nine + "1/0" + times(8, ",1/0)") + ",5)", 5);
+        gives(nine + "w(1)" + times(9, ",4)"), 4);
+    }
+
+    /** As many tries as 40 PARTS have room for, with all that is in them worked out. */
+    private static void nineteenTries() {
+        begin("try ( x , y ): 19 of them around 20 REFS");
+        String[] cells = new String[20];
+        for (int i = 0; i < 20; i++) {
+            cells[i] = "B" + (char) ('a' + i % 8) + i / 8;
+        }
+        due("PARTS", tell("Aa0", triesOf(cells, 0, 20)), 39);
+        book().recalculate();
+        due("all FAIL", book().failure(0, 0), 3);
+        reads("Aa0", cells);
+        book().whole(at(cells[19]), 7);
+        book().recalculate();
+        isWhole("Aa0", 7);
+        reads("Aa0", cells);
+        book().whole(at(cells[0]), 8);
+        book().recalculate();
+        isWhole("Aa0", 8);
+        reads("Aa0", cells[0]);
+        due("40 PARTS", tell("Aa0", "-" + triesOf(cells, 0, 20)), 40);
+        book().recalculate();
+        isWhole("Aa0", -8);
+    }
+
+    private static String triesOf(String[] cells, int from, int to) {
+        if (to - from == 1) {
+            return cells[from];
+        }
+        int middle = (from + to) / 2;
+        return "try(" + triesOf(cells, from, middle) + "," + triesOf(cells, middle, to) + ")";
+    }
+
+    /** As many ifs as 40 PARTS have room for. */
+    private static void thirteenChoices() {
+        begin("if ( c , x , y ): 13 of them, with 14 WHOLES to choose from");
+        due("PARTS", tell("Dh7", choicesOf(1, 15)), 40);
+        book().whole(0, 1);
+        book().recalculate();
+        isWhole("Dh7", 1);
+        reads("Dh7", "Aa0", "Aa0", "Aa0");
+        book().whole(0, 0);
+        book().recalculate();
+        isWhole("Dh7", 14);
+        reads("Dh7", "Aa0", "Aa0", "Aa0", "Aa0");
+    }
+
+    private static String choicesOf(int from, int to) {
+        if (to - from == 1) {
+            return String.valueOf(from);
+        }
+        int middle = (from + to) / 2;
+        return "if(Aa0," + choicesOf(from, middle) + "," + choicesOf(middle, to) + ")";
+    }
+
     private static void choices() {
         begin("if ( c , x , y ) is x if c is not 0, else y; the other one is not worked out");
         book().whole(0, LEAST_LONG);
@@ -616,6 +710,11 @@ public final class WorkingOutBoundaryTest extends Bench {
         givesReal("1%(Cc0*3)", 1 % (3 * Double.MIN_VALUE));
         givesReal("Cc0*5%(Cc0*3)", 2 * Double.MIN_VALUE);
         givesReal("Cb0%(Cc0*7)", GREATEST % (7 * Double.MIN_VALUE));
+        // The least ones with 53 bits, and the greatest with fewer.
+        givesReal("1%(Cc0*6755399441055744)", 1 % (6755399441055744L * Double.MIN_VALUE));
+        givesReal("1%(Cc0*3377699720527872)", 1 % (3377699720527872L * Double.MIN_VALUE));
+        givesReal("1%(Cc0*4503599627370495)", 1 % (4503599627370495L * Double.MIN_VALUE));
+        givesReal("1%(Cc0*4503599627370497)", 1 % (4503599627370497L * Double.MIN_VALUE));
     }
 
     private static void signsOfZeros() {
@@ -937,6 +1036,29 @@ public final class WorkingOutBoundaryTest extends Bench {
         book().whole(at("Cb0"), GREATEST_LONG);
         gives("least(Ca0:Cb0)", LEAST_LONG);
         gives("most(Ca0:Cb0)", GREATEST_LONG);
+        mixedLeastAndMost();
+    }
+
+    private static void mixedLeastAndMost() {
+        again();
+        // LONGS as such, though they are alike as DOUBLES.
+        book().whole(0, (1L << 53) + 1);
+        book().whole(1, 1L << 53);
+        book().whole(2, (1L << 53) + 1);
+        gives("least(Aa0:Ab0)", 1L << 53);
+        gives("most(Ab0:Ac0)", (1L << 53) + 1);
+        book().whole(at("Ba0"), 3);
+        book().number(at("Bb0"), 25, 1);
+        book().whole(at("Bc0"), 2);
+        book().number(at("Bd0"), 35, 1);
+        givesReal("least(Ba0:Bb0)", 2.5);
+        gives("most(Ba0:Bb0)", 3);
+        gives("least(Bb0:Bc0)", 2);
+        givesReal("most(Bb0:Bc0)", 2.5);
+        gives("least(Bc0:Bd0)", 2);
+        givesReal("most(Bc0:Bd0)", 3.5);
+        gives("least(Ba0:Bd0)", 2);
+        givesReal("most(Ba0:Bd0)", 3.5);
         // As DOUBLES these are alike, so the first one stays.
         book().number(at("Da0"), 1L << 53, 0);
         book().whole(at("Db0"), (1L << 53) + 1);
@@ -1139,6 +1261,12 @@ public final class WorkingOutBoundaryTest extends Bench {
         givesReal("line(20,Aa0:Ad0,Aa1:Ad1)", -3.0);
         givesReal("line(9.9999999999,Aa0:Ad0,Aa1:Ad1)", 5.0 + 2.0 * (9.9999999999 / 10.0));
         givesReal("line(10.0000000001,Aa0:Ad0,Aa1:Ad1)", 7.0 + -10.0 * ((10.0000000001 - 10.0) / 10.0));
+        // At one of R it is just the one of S, though 2^60 + (0.1 - 2^60) is not 0.1.
+        book().whole(at("Ba0"), 1L << 60);
+        book().number(at("Bb0"), 1, 1);
+        book().whole(at("Bc0"), 5);
+        givesReal("line(10,Aa0:Ac0,Ba0:Bc0)", 0.1);
+        givesReal("line(9.5,Aa0:Ac0,Ba0:Bc0)", 0x1p60 + (0.1 - 0x1p60) * (9.5 / 10.0));
         long[][] numbers = {{1, 7, 11, 13}, {3, 11, -7, 29}};
         for (int i = 0; i < 4; i++) {
             book().number(i, numbers[0][i], 1);
@@ -1178,6 +1306,22 @@ public final class WorkingOutBoundaryTest extends Bench {
         givesReal("line(Ca0,Da0:Db0,Da2:Db2)", 1.0);
         givesReal("line(0,Da2:Db2,Da0:Db0)", -0x1p1023);
         givesReal("line(1,Da2:Db2,Da0:Db0)", 0x1p1023);
+    }
+
+    private static void tablesOfSheets() {
+        begin("line, area: of all 64 cells of a SHEET");
+        for (int i = 0; i < 64; i++) {
+            book().whole(i, i);
+            book().whole(64 + i, 2 * i);
+        }
+        givesReal("line(0,Aa0:Ah7,Ba0:Bh7)", 0.0);
+        givesReal("line(0.5,Aa0:Ah7,Ba0:Bh7)", 1.0);
+        givesReal("line(7.5,Aa0:Ah7,Ba0:Bh7)", 15.0);
+        givesReal("line(62.5,Aa0:Ah7,Ba0:Bh7)", 125.0);
+        givesReal("line(63,Aa0:Ah7,Ba0:Bh7)", 126.0);
+        givesReal("area(Aa0:Ah7,Ba0:Bh7)", 63.0 * 63.0);
+        fails("line(1,Aa0:Ah7,Ba0:Bg7)", 7);
+        fails("area(Aa0:Ah7,Bb0:Bh7)", 7);
     }
 
     private static void areasUnderCurves() {
