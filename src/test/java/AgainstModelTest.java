@@ -6,8 +6,8 @@ import java.util.function.ToLongFunction;
 /**
  * Random runs of calls, the same ones each time, on a LoadBook and on the model: all answers must be alike.
  *
- * <p>Nothing is promised behind an object's 512th call, so a run has fewer, and what there is to look at when it ends is
- * looked at in pieces, for each of which the run is made once more on a new object.
+ * <p>Nothing is promised behind an object's 512th call, so a run has fewer, and what there is to look at when it ends
+ * is looked at in pieces, for each of which the run is made once more on a new object.
  */
 public final class AgainstModelTest {
     private static final int MOST_CALLS = 512;

@@ -1,4 +1,4 @@
-/** The boundary cases that the promises 1 to 25 name themselves: arguments too small and too large, codes, their order. */
+/** The boundary cases that the promises 1 to 25 name: arguments too small and too large, codes, their order. */
 public final class CallsBoundaryTest extends Bench {
     private static final int[] NO_CELLS = {Integer.MIN_VALUE, -256, -64, -1, 256, 257, 320, 512, Integer.MAX_VALUE};
     private static final int[] NO_SHEETS = {Integer.MIN_VALUE, -4, -1, 4, 5, 64, Integer.MAX_VALUE};
@@ -543,7 +543,8 @@ public final class CallsBoundaryTest extends Bench {
     }
 
     private static void failuresByState() {
-        begin("Of a cell in state 3, 4 or 5: 0 the kind, 1 the first cell, 2 the cause (0 without one). NONE in another");
+        begin("Of a cell in state 3, 4 or 5: 0 the kind, 1 the first cell, 2 the cause (0 without one). NONE "
+            + "in another");
         tell("Aa0", "Bh7");
         tell("Ab0", "Aa0");
         tell("Ac0", "Ac0");
@@ -653,7 +654,8 @@ public final class CallsBoundaryTest extends Bench {
     }
 
     private static void cyclesByNumbers() {
-        begin("The k-th cell, by numbers, of the i-th CYCLE (by first cells) that there was at the latest recalculate()");
+        begin("The k-th cell, by numbers, of the i-th CYCLE (by first cells) that there was at the latest "
+            + "recalculate()");
         tell("Dh7", "Aa0");
         tell("Aa0", "Dh7");
         tell("Ab0", "Ab0");
@@ -681,7 +683,8 @@ public final class CallsBoundaryTest extends Bench {
     }
 
     private static void tracesOfNone() {
-        begin("READS as it was DONE last (a cell whose FORMULA was told since has none; nor has one without a FORMULA)");
+        begin("READS as it was DONE last (a cell whose FORMULA was told since has none; nor has one without a "
+            + "FORMULA)");
         tell("Aa0", "try(Ab0,0)+try(Ac0,0)");
         reads("Aa0");
         book().recalculate();
@@ -746,7 +749,8 @@ public final class CallsBoundaryTest extends Bench {
     }
 
     private static void namedNotWorkedOut() {
-        begin("(0 if it was not worked out since it was told, or was not come to when its SHEET's were worked out last)");
+        begin("(0 if it was not worked out since it was told, or was not come to when its SHEET's were worked "
+            + "out last)");
         tellConstant(0, "a=7");
         tellConstant(0, "b=8");
         constantIs(0, 0, 0, 0, 0);

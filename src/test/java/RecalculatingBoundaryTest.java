@@ -678,7 +678,8 @@ public final class RecalculatingBoundaryTest extends Bench {
     }
 
     private static void spoiledSheets() {
-        begin("One of a SHEET that is SPOILED FAILS with 10 SPOILED; its cause is the kind with which the CONSTANT FAILED");
+        begin("One of a SHEET that is SPOILED FAILS with 10 SPOILED; its cause is the kind with which the "
+            + "CONSTANT FAILED");
         tellConstant(1, "a=1/0");
         tell("Ba0", "1");
         tell("Bb0", "Ba0");
@@ -757,7 +758,8 @@ public final class RecalculatingBoundaryTest extends Bench {
     }
 
     private static void valueFailedOrHangs() {
-        begin("that is its VALUE, or it FAILED (it itself being the first cell), or HANGS (what it FAILED with, it read)");
+        begin("that is its VALUE, or it FAILED (it itself being the first cell), or HANGS (what it FAILED "
+            + "with, it read)");
         tell("Aa0", "3");
         tell("Ab0", "3.5");
         tell("Ac0", "1/0");

@@ -470,7 +470,8 @@ public final class TextsBoundaryTest extends Bench {
     }
 
     private static void constantsAndFunctions() {
-        begin("A FORMULA is E; a CONSTANT is NAME = E; a FUNCTION is NAME ( NAME {, NAME} ) = E, one to three ARGUMENTS");
+        begin("A FORMULA is E; a CONSTANT is NAME = E; a FUNCTION is NAME ( NAME {, NAME} ) = E, one to three "
+            + "ARGUMENTS");
         constantFault("", 2, 0);
         constantFault("a", 2, 1);
         constantFault("a=", 2, 2);
@@ -546,7 +547,8 @@ public final class TextsBoundaryTest extends Bench {
     }
 
     private static void fortyParts() {
-        begin("40 at most; 3 the 41st PART (at its first TOKEN, of a sign between at the sign, of an R at its first REF)");
+        begin("40 at most; 3 the 41st PART (at its first TOKEN, of a sign between at the sign, of an R at its "
+            + "first REF)");
         tellFunction("f(x)=x");
         tellConstant(3, "a=1");
         tellConstant(0, "a=1");
@@ -602,7 +604,8 @@ public final class TextsBoundaryTest extends Bench {
     }
 
     private static void tenOpen() {
-        begin("OPEN are at most 10 in one another; 3 the 11th OPEN: a ( up to its ), a - of an ATOM up to the ATOM's end");
+        begin("OPEN are at most 10 in one another; 3 the 11th OPEN: a ( up to its ), a - of an ATOM up to the "
+            + "ATOM's end");
         tellFunction("f(x)=x");
         accepted(times(10, "(") + "1" + times(10, ")"), 1);
         formulaFault(times(11, "(") + "1" + times(11, ")"), 3, 10);
@@ -851,7 +854,8 @@ public final class TextsBoundaryTest extends Bench {
     }
 
     private static void areas() {
-        begin("also (at its first REF) an R of two SHEETS, or whose second REF has a lesser row or column than the first");
+        begin("also (at its first REF) an R of two SHEETS, or whose second REF has a lesser row or column "
+            + "than the first");
         accepted("sum(Aa0:Aa0)", 2);
         accepted("sum(Dd3:Dd3)", 2);
         accepted("sum(Dd3:De3)", 2);
@@ -932,7 +936,8 @@ public final class TextsBoundaryTest extends Bench {
     }
 
     private static void toldAgain() {
-        begin("Told again, a CONSTANT (in its SHEET), a FUNCTION takes the place of the one of its NAME, has its number");
+        begin("Told again, a CONSTANT (in its SHEET), a FUNCTION takes the place of the one of its NAME, has "
+            + "its number");
         due("from 0", tellConstant(0, "a=1"), 0);
         due("the next", tellConstant(0, "b=2"), 1);
         due("from 0, of another SHEET", tellConstant(1, "b=3"), 0);

@@ -92,10 +92,10 @@ public final class WorkingOutBoundaryTest extends Bench {
 
     /** With that many STEPS left it is worked out, with one less it is SPENT. */
     private static void takes(String e, int steps) {
-        tell("Dh7", ahead(1000 - steps) + "(" + e + ")");
+        due("told " + e, tell("Dh7", ahead(1000 - steps) + "(" + e + ")") > 0 ? 1 : 0, 1);
         book().recalculate();
         due("SPENT in " + e + " with enough", book().failure(255, 0) == 8 ? 1 : 0, 0);
-        tell("Dh7", ahead(1001 - steps) + "(" + e + ")");
+        due("told " + e, tell("Dh7", ahead(1001 - steps) + "(" + e + ")") > 0 ? 1 : 0, 1);
         book().recalculate();
         due("state of " + e + " with one STEP less", book().state(255), 3);
         due("kind of " + e + " with one STEP less", book().failure(255, 0), 8);
@@ -919,7 +919,8 @@ public final class WorkingOutBoundaryTest extends Bench {
     }
 
     private static void readingFailedCells() {
-        begin("One that FAILED, HANGS, or is on a CYCLE: what reads it HANGS: with the kind, first cell and cause of it");
+        begin("One that FAILED, HANGS, or is on a CYCLE: what reads it HANGS: with the kind, first cell and "
+            + "cause of it");
         tell("Aa0", "1%0");
         tell("Ab0", "Aa0");
         tell("Ac0", "Ab0");
@@ -1360,22 +1361,14 @@ public final class WorkingOutBoundaryTest extends Bench {
         // a + b, with q - p of 0
         fails("area(Da1:Db1,Db0:Dc0)", 5);
         givesReal("area(Da1:Dc1,Da1:Dc1)", 0.5);
-        tell("Da2", "Ca0*0.9");
-        tell("Db2", "Ca0*0.9");
-        tell("Dc2", "-Ca0*0.9");
-        book().number(at("Da3"), 0, 0);
-        book().number(at("Db3"), 5, 1);
-        book().number(at("Dc3"), 10, 1);
-        // the product, half of which is not infinite
-        book().whole(at("Dd3"), 3);
-        fails("area(Da2:Db2,Dd3:Dd3)", 7);
-        tell("Dd2", "0-0");
-        tell("De2", "Ca0");
-        book().whole(at("Dd4"), 1);
-        book().whole(at("De4"), 1);
-        fails("area(Dd2:De2,Dd4:De4)", 5);
-        book().number(at("De4"), 9, 1);
-        givesReal("area(Dd2:De2,Dd4:De4)", 0x1p1023 * 1.9 / 2.0);
+        // Their product, though half of it is not infinite.
+        book().whole(at("Da2"), 0);
+        tell("Db2", "Ca0");
+        book().whole(at("Da3"), 1);
+        book().whole(at("Db3"), 1);
+        fails("area(Da2:Db2,Da3:Db3)", 5);
+        book().number(at("Db3"), 9, 1);
+        givesReal("area(Da2:Db2,Da3:Db3)", 0x1p1023 * 1.9 / 2.0);
         sumOfAreasBeyond();
     }
 
